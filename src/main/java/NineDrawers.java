@@ -85,8 +85,7 @@ public final class NineDrawers {
                 delayed++;
             }
         }
-        hall.clear();
-        hall.facing = page[DRAWERS] - '0';
+        hall.clear(page[DRAWERS] - '0');
         hasChest = true;
         hasImage = false;
         chestsRead++;
@@ -552,8 +551,7 @@ public final class NineDrawers {
     private static int fewestLaid(Course tried, int days) {
         int fewest = NONE;
         for (int laid = 0; laid <= ALL_DAYS; laid++) {
-            boolean fewer = fewest == NONE || Integer.bitCount(laid) < Integer.bitCount(fewest);
-            if (fewer) {
+            if (fewest == NONE || Integer.bitCount(laid) < Integer.bitCount(fewest)) {
                 tried.laid = laid;
                 tried.settle();
                 if (tried.isSureOfAll(days)) {
@@ -587,8 +585,8 @@ public final class NineDrawers {
         final int[] foundThere = new int[DRAWERS];
         final int[] foundEmpty = new int[DRAWERS];
 
-        void clear() {
-            facing = 0;
+        void clear(int newFacing) {
+            facing = newFacing;
             people = 0;
             for (int i = 0; i < DRAWERS; i++) {
                 laidIn[i] = 0;

@@ -139,6 +139,11 @@ public final class PromisesTest {
         C.due("fault() of eleven", faultOf("aaaaaaaaa00"), 10);
         C.due("fault() of twelve", faultOf("aaaaaaaaa0a0"), 10);
         C.due("fault(), the first of two", faultOf("aAaaaBaaa9"), 1);
+        NineDrawers x = new NineDrawers();
+        Checks.write(x, "aaaaaa");
+        x.blank();
+        Checks.write(x, "bb");
+        C.due("fault(): letters of a page before do not count", x.fault(), 2);
     }
 
     private static void chests() {
@@ -256,6 +261,8 @@ public final class PromisesTest {
         for (int day = 3; day <= 6; day++) {
             x.lay(1, day, true);
         }
+        x.person(SENDER, 2, 0);
+        C.due("SENDER: drawer(2, 5)", x.drawer(2, 5), 0);
         C.due("all laid: drawer(1, 4)", x.drawer(1, 4), 1);
         C.due("all laid: drawer(1, 5)", x.drawer(1, 5), NONE);
         C.due("all laid: drawer(1, 6)", x.drawer(1, 6), 126);
@@ -458,6 +465,8 @@ public final class PromisesTest {
         C.due("drawer(0, 3) is as it was", x.drawer(0, 3), 64);
         x.person(RETURNER, 1, 0);
         fewDue(x, 1, 1, NONE, NONE);
+        fewDue(x, 1, 127, NONE, NONE);
+        fewDue(x, 0, 127, 7, 127);
         fewDue(x, 1, 126, 1, 1);
         fewDue(x, 1, 120, 1, 1);
         x.person(RETURNER, 2, 0);
@@ -466,7 +475,7 @@ public final class PromisesTest {
         x.person(DENIER, 3, 4);
         fewDue(x, 3, 0, 6, 111);
         fewDue(x, 3, 16, 7, 127);
-        C.due("count(7)", x.count(7), 18);
+        C.due("count(7)", x.count(7), 22);
     }
 
     private static void fewRefusals() {
@@ -525,7 +534,11 @@ public final class PromisesTest {
         C.due("count(4)", x.count(4), 0);
         C.due("delays(0)", x.delays(0), 255);
         C.due("forget() again", x.forget(), 0);
-        C.due("found(0, 0, false)", x.found(0, 0, false), 1);
+        C.due("found(8, 0, false)", x.found(8, 0, false), 1);
+        x.lay(8, 0, true);
+        C.due("delays(8)", x.delays(8), 255 - 8);
+        C.due("forget(): what was not there, too", x.forget(), 1);
+        C.due("delays(8)", x.delays(8), 255);
     }
 
     private static void delaysOfDrawer() {
@@ -615,18 +628,27 @@ public final class PromisesTest {
 
     private static void drawnDays() {
         C.part("promise 20, DRAWS");
-        // All but DAY 6 agrees anyway: only what is drawn for that decides.
+        drawnDay(0);
+        drawnDay(3);
+        drawnDay(6);
+    }
+
+    /** All other DAYS agree anyway: only what is drawn for that one decides. */
+    private static void drawnDay(int decides) {
         NineDrawers x = chestOf(PLAIN);
-        x.person(DENIER, 5, 0);
-        for (int day = 1; day <= 5; day++) {
-            x.person(WEEKLY, 5, day);
+        int denied = decides == 3 ? 5 : 3;
+        x.person(DENIER, 5, denied);
+        for (int day = 0; day < 7; day++) {
+            if (day != decides && day != denied) {
+                x.person(WEEKLY, 5, day);
+            }
         }
         for (int start = 0; start < 20; start++) {
             long seed = start * 1000003L;
             int stuck = 0;
             for (int draw = 0; draw < 12 * 63; draw++) {
                 seed = (1103515245L * seed + 12345L) % 2147483648L;
-                if (draw % 63 == 5 * 7 + 6 && seed / 65536 % 4 != 0) {
+                if (draw % 63 == 5 * 7 + decides && seed / 65536 % 4 != 0) {
                     stuck++;
                 }
             }
@@ -669,6 +691,11 @@ public final class PromisesTest {
         C.due("about(2, 0)", x.about(2, 0), UNKNOWN);
         x.forget();
         x.face(0);
+        for (int i = 0; i < 9; i++) {
+            x.lay(i, i % 7, x.lay(i, i % 7, true) == 0);
+            x.found(i, 0, true);
+            x.move(1, i);
+        }
         C.due("restore() again", x.restore(), 2);
         C.due("digest() again", x.digest(), before);
         C.due("person(3, 2, 2)", x.person(WEEKLY, 2, 2), 2);
